@@ -285,7 +285,8 @@ public final class NumberScribe {
   }
 
   private int readSpan(int way, int from, int to, int base) {
-    int front = from < to ? octet(from) : REFUSED;
+    // Of an empty span this is the sign behind it, which is harmless: no digit is found either way.
+    int front = octet(from);
     if (front == '-') {
       return hasSign(way) ? readDigits(way, true, from + 1, to, base) : NOT_A_NUMBER;
     }
