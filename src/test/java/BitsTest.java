@@ -1,9 +1,227 @@
 /** Promises 11, 12, 15 and 16: bits, longBits, wide and hash, against a count bit by bit. */
 public final class BitsTest {
   private static final int[] OTHERS = {-1, 8, 9, 32, -8, Integer.MIN_VALUE, Integer.MAX_VALUE};
+  private static final int INT_MIN = Integer.MIN_VALUE;
+  private static final long LONG_MIN = Long.MIN_VALUE;
 
   public static void main(String[] args) {
-    namedEdges();
+    Check.holds("Promise 11: 0: how many bits are 1", BitsTest::onesOfInts);
+    Check.holds("Promise 11: 1: 0s before the first 1 (32 of 0)", BitsTest::zerosBeforeOfInts);
+    Check.holds("Promise 11: 2: 0s behind the last (32 of 0)", BitsTest::zerosBehindOfInts);
+    Check.holds("Promise 11: 3: the highest bit that is 1 alone (0 of 0)", BitsTest::highestOfInts);
+    Check.holds("Promise 11: 4: the lowest, likewise", BitsTest::lowestOfInts);
+    Check.holds("Promise 11: 5: (the lowest is the highest then)", BitsTest::turnedInts);
+    Check.holds("Promise 11: 6: its bytes in the other order", BitsTest::turnedBytesOfInts);
+    Check.holds("Promise 11: 7: -1, 0, 1 for its sign", BitsTest::signsOfInts);
+    Check.holds("Promise 11: REFUSED, as an int, for another what", BitsTest::otherWhatsOfInts);
+    Check.holds("Promise 12: 0: how many bits are 1", BitsTest::onesOfLongs);
+    Check.holds("Promise 12: 1: (64 where it says 32)", BitsTest::zerosBeforeOfLongs);
+    Check.holds("Promise 12: 2: (64 where it says 32)", BitsTest::zerosBehindOfLongs);
+    Check.holds("Promise 12: 3 to 6 tell a long: 3", BitsTest::highestOfLongs);
+    Check.holds("Promise 12: 3 to 6 tell a long: 4", BitsTest::lowestOfLongs);
+    Check.holds("Promise 12: 3 to 6 tell a long: 5", BitsTest::turnedLongs);
+    Check.holds("Promise 12: 3 to 6 tell a long: 6", BitsTest::turnedBytesOfLongs);
+    Check.holds("Promise 12: 7: -1, 0, 1 for its sign", BitsTest::signsOfLongs);
+    Check.holds("Promise 12: REFUSED likewise", BitsTest::otherWhatsOfLongs);
+    Check.holds("Promise 15: v as a long without sign from an int: u(v)", BitsTest::wideIsWithoutSign);
+    Check.holds("Promise 16: The high 32 bits of v xor its low 32 bits", BitsTest::hashOfBothHalves);
+    Check.holds("Promises 11, 12, 15, 16: every pair of bits", BitsTest::everyPairOfBits);
+    Check.holds("Promises 11, 12, 15, 16: state", BitsTest::stateStays);
+    Check.finish();
+  }
+
+  private static void ofInt(int what, int v, int want) {
+    Check.due("bits(" + v + ", " + what + ")", new NumberScribe().bits(v, what), want);
+  }
+
+  private static void ofLong(int what, long v, long want) {
+    Check.due("longBits(" + v + ", " + what + ")", new NumberScribe().longBits(v, what), want);
+  }
+
+  private static void onesOfInts() {
+    ofInt(0, 0, 0);
+    ofInt(0, 6, 2);
+    ofInt(0, INT_MIN, 1);
+    ofInt(0, Integer.MAX_VALUE, 31);
+    ofInt(0, -1, 32);
+  }
+
+  private static void zerosBeforeOfInts() {
+    ofInt(1, 0, 32);
+    ofInt(1, 1, 31);
+    ofInt(1, 6, 29);
+    ofInt(1, Integer.MAX_VALUE, 1);
+    ofInt(1, INT_MIN, 0);
+    ofInt(1, -1, 0);
+  }
+
+  private static void zerosBehindOfInts() {
+    ofInt(2, 0, 32);
+    ofInt(2, 1, 0);
+    ofInt(2, 6, 1);
+    ofInt(2, INT_MIN, 31);
+    ofInt(2, -1, 0);
+  }
+
+  private static void highestOfInts() {
+    ofInt(3, 0, 0);
+    ofInt(3, 1, 1);
+    ofInt(3, 6, 4);
+    ofInt(3, Integer.MAX_VALUE, 1 << 30);
+    ofInt(3, INT_MIN, INT_MIN);
+    ofInt(3, -1, INT_MIN);
+  }
+
+  private static void lowestOfInts() {
+    ofInt(4, 0, 0);
+    ofInt(4, 1, 1);
+    ofInt(4, 6, 2);
+    ofInt(4, INT_MIN, INT_MIN);
+    ofInt(4, -1, 1);
+  }
+
+  private static void turnedInts() {
+    ofInt(5, 0, 0);
+    ofInt(5, 1, INT_MIN);
+    ofInt(5, INT_MIN, 1);
+    ofInt(5, 6, 0x60000000);
+    ofInt(5, -2, Integer.MAX_VALUE);
+    ofInt(5, -1, -1);
+  }
+
+  private static void turnedBytesOfInts() {
+    ofInt(6, 0, 0);
+    ofInt(6, 1, 0x01000000);
+    ofInt(6, 0x80, INT_MIN);
+    ofInt(6, INT_MIN, 0x80);
+    ofInt(6, 0x12345678, 0x78563412);
+    ofInt(6, -1, -1);
+  }
+
+  private static void signsOfInts() {
+    ofInt(7, 0, 0);
+    ofInt(7, 1, 1);
+    ofInt(7, -1, -1);
+    ofInt(7, Integer.MAX_VALUE, 1);
+    ofInt(7, INT_MIN, -1);
+  }
+
+  private static void otherWhatsOfInts() {
+    for (int what : OTHERS) {
+      ofInt(what, 0, Check.REFUSED);
+      ofInt(what, 6, Check.REFUSED);
+      ofInt(what, INT_MIN, Check.REFUSED);
+    }
+  }
+
+  private static void onesOfLongs() {
+    ofLong(0, 0, 0);
+    ofLong(0, 0xFFFFFFFF00000000L, 32);
+    ofLong(0, LONG_MIN, 1);
+    ofLong(0, Long.MAX_VALUE, 63);
+    ofLong(0, -1, 64);
+  }
+
+  private static void zerosBeforeOfLongs() {
+    ofLong(1, 0, 64);
+    ofLong(1, 1, 63);
+    ofLong(1, 1L << 32, 31);
+    ofLong(1, (1L << 32) - 1, 32);
+    ofLong(1, Long.MAX_VALUE, 1);
+    ofLong(1, LONG_MIN, 0);
+    ofLong(1, -1, 0);
+  }
+
+  private static void zerosBehindOfLongs() {
+    ofLong(2, 0, 64);
+    ofLong(2, 1, 0);
+    ofLong(2, 1L << 31, 31);
+    ofLong(2, 1L << 32, 32);
+    ofLong(2, LONG_MIN, 63);
+    ofLong(2, -1, 0);
+  }
+
+  private static void highestOfLongs() {
+    ofLong(3, 0, 0);
+    ofLong(3, 1, 1);
+    ofLong(3, 1L << 31, 1L << 31);
+    ofLong(3, 3L << 32, 1L << 33);
+    ofLong(3, Long.MAX_VALUE, 1L << 62);
+    ofLong(3, LONG_MIN, LONG_MIN);
+    ofLong(3, -1, LONG_MIN);
+  }
+
+  private static void lowestOfLongs() {
+    ofLong(4, 0, 0);
+    ofLong(4, 1, 1);
+    ofLong(4, 1L << 31, 1L << 31);
+    ofLong(4, 3L << 32, 1L << 32);
+    ofLong(4, LONG_MIN, LONG_MIN);
+    ofLong(4, -1, 1);
+  }
+
+  private static void turnedLongs() {
+    ofLong(5, 0, 0);
+    ofLong(5, 1, LONG_MIN);
+    ofLong(5, LONG_MIN, 1);
+    ofLong(5, 1L << 31, 1L << 32);
+    // 6 << 60 is 0110 at the top: the two bits of 6 in the other order.
+    ofLong(5, 6, 6L << 60);
+    ofLong(5, -2, Long.MAX_VALUE);
+    ofLong(5, -1, -1);
+  }
+
+  private static void turnedBytesOfLongs() {
+    ofLong(6, 0, 0);
+    ofLong(6, 1, 1L << 56);
+    ofLong(6, 0x80, LONG_MIN);
+    ofLong(6, LONG_MIN, 0x80);
+    ofLong(6, 0x123456789ABCDEF0L, 0xF0DEBC9A78563412L);
+    ofLong(6, -1, -1);
+  }
+
+  private static void signsOfLongs() {
+    ofLong(7, 0, 0);
+    ofLong(7, 1, 1);
+    ofLong(7, -1, -1);
+    ofLong(7, 1L << 31, 1);
+    ofLong(7, 1L << 32, 1);
+    ofLong(7, -(1L << 32), -1);
+    ofLong(7, Long.MAX_VALUE, 1);
+    ofLong(7, LONG_MIN, -1);
+  }
+
+  private static void otherWhatsOfLongs() {
+    for (int what : OTHERS) {
+      ofLong(what, 0, Check.REFUSED);
+      ofLong(what, 6, Check.REFUSED);
+      ofLong(what, LONG_MIN, Check.REFUSED);
+    }
+  }
+
+  private static void wideIsWithoutSign() {
+    NumberScribe scribe = new NumberScribe();
+    Check.due("wide(0)", scribe.wide(0), 0);
+    Check.due("wide(1)", scribe.wide(1), 1);
+    Check.due("wide(MAX)", scribe.wide(Integer.MAX_VALUE), 2147483647L);
+    Check.due("wide(MIN)", scribe.wide(INT_MIN), 2147483648L);
+    Check.due("wide(-1)", scribe.wide(-1), 4294967295L);
+  }
+
+  private static void hashOfBothHalves() {
+    NumberScribe scribe = new NumberScribe();
+    Check.due("hash(0)", scribe.hash(0), 0);
+    Check.due("hash(-1)", scribe.hash(-1), 0);
+    Check.due("hash(1)", scribe.hash(1), 1);
+    Check.due("hash(1L << 31)", scribe.hash(1L << 31), INT_MIN);
+    Check.due("hash(1L << 32)", scribe.hash(1L << 32), 1);
+    Check.due("hash(0xFFFFFFFF)", scribe.hash(0xFFFFFFFFL), -1);
+    Check.due("hash(MIN)", scribe.hash(LONG_MIN), INT_MIN);
+    Check.due("hash(MAX)", scribe.hash(Long.MAX_VALUE), INT_MIN);
+    Check.due("hash(0xF00000000F)", scribe.hash(0xF00000000FL), 0xFF);
+  }
+
+  private static void everyPairOfBits() {
     for (int high = 0; high < 64; high++) {
       for (int low = 0; low <= high; low++) {
         long v = 1L << high | 1L << low;
@@ -12,42 +230,18 @@ public final class BitsTest {
         sameAsBitByBit(v * 0x9E3779B97F4A7C15L);
       }
     }
-    sameAsBitByBit(0);
-    sameAsBitByBit(-1);
-    Check.finish();
   }
 
-  private static void namedEdges() {
-    NumberScribe scribe = Check.holding("9");
-    int[] ofZero = {0, 32, 32, 0, 0, 0, 0, 0};
-    int[] ofSix = {2, 29, 1, 4, 2, 0x60000000, 0x06000000, 1};
-    int[] ofLeast = {1, 0, 31, Integer.MIN_VALUE, Integer.MIN_VALUE, 1, 0x80, -1};
-    long[] ofLongZero = {0, 64, 64, 0, 0, 0, 0, 0};
-    long[] ofLongSix = {2, 61, 1, 4, 2, 6L << 60, 6L << 56, 1};
-    long[] ofLongLeast = {1, 0, 63, Long.MIN_VALUE, Long.MIN_VALUE, 1, 0x80, -1};
-    for (int what = 0; what <= 7; what++) {
-      Check.due("bits(0, " + what + ")", scribe.bits(0, what), ofZero[what]);
-      Check.due("bits(6, " + what + ")", scribe.bits(6, what), ofSix[what]);
-      Check.due("bits(MIN, " + what + ")", scribe.bits(Integer.MIN_VALUE, what), ofLeast[what]);
-      Check.due("longBits(0, " + what + ")", scribe.longBits(0, what), ofLongZero[what]);
-      // 6 << 60 is 0110 at the top: the two bits of 6 in the other order.
-      Check.due("longBits(6, " + what + ")", scribe.longBits(6, what), ofLongSix[what]);
-      Check.due("longBits(MIN, " + what + ")", scribe.longBits(Long.MIN_VALUE, what), ofLongLeast[what]);
+  private static void stateStays() {
+    NumberScribe scribe = Check.holding("9", -5);
+    for (int what = -1; what <= 8; what++) {
+      scribe.bits(6, what);
+      scribe.longBits(6, what);
     }
-    Check.due("bits(0x12345678, 6)", scribe.bits(0x12345678, 6), 0x78563412);
-    Check.due("longBits(.., 6)", scribe.longBits(0x123456789ABCDEF0L, 6), 0xF0DEBC9A78563412L);
-    Check.due("wide(-1)", scribe.wide(-1), 4294967295L);
-    Check.due("wide(MIN)", scribe.wide(Integer.MIN_VALUE), 2147483648L);
-    Check.due("wide(MAX)", scribe.wide(Integer.MAX_VALUE), 2147483647L);
-    Check.due("wide(0)", scribe.wide(0), 0);
-    Check.due("hash(0)", scribe.hash(0), 0);
-    Check.due("hash(-1)", scribe.hash(-1), 0);
-    Check.due("hash(1)", scribe.hash(1), 1);
-    Check.due("hash(1L << 32)", scribe.hash(1L << 32), 1);
-    Check.due("hash(MIN)", scribe.hash(Long.MIN_VALUE), Integer.MIN_VALUE);
-    Check.due("hash(0xF00000000F)", scribe.hash(0xF00000000FL), 0xFF);
+    scribe.wide(6);
+    scribe.hash(6);
     Check.dueText("calls about bits", scribe, "9");
-    Check.due("number() after calls about bits", scribe.number(), 0);
+    Check.due("number() after calls about bits", scribe.number(), -5);
   }
 
   private static void sameAsBitByBit(long v) {
@@ -57,10 +251,6 @@ public final class BitsTest {
       long ofInt = bitByBit(i & 0xFFFFFFFFL, 32, what);
       Check.due("bits(" + i + ", " + what + ")", scribe.bits(i, what), (int) ofInt);
       Check.due("longBits(" + v + ", " + what + ")", scribe.longBits(v, what), bitByBit(v, 64, what));
-    }
-    for (int what : OTHERS) {
-      Check.due("bits(" + i + ", " + what + ")", scribe.bits(i, what), Check.REFUSED);
-      Check.due("longBits(" + v + ", " + what + ")", scribe.longBits(v, what), Check.REFUSED);
     }
     Check.due("wide(" + i + ")", scribe.wide(i), i < 0 ? i + 4294967296L : i);
     Check.due("hash(" + v + ")", scribe.hash(v), hashBitByBit(v));

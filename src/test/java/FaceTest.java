@@ -29,6 +29,13 @@ public final class FaceTest {
       "public static final int NumberScribe.REFUSED"));
 
   public static void main(String[] args) {
+    Check.holds("The public face", FaceTest::faceIsTheDocuments);
+    Check.holds("The public face: public final class NumberScribe", FaceTest::classIsPublicAndFinal);
+    Check.holds("LANGUAGE.md 1: No private namesake of a public method", FaceTest::noPrivateNamesake);
+    Check.finish();
+  }
+
+  private static void faceIsTheDocuments() {
     Set<String> seen = new TreeSet<>();
     for (Constructor<?> constructor : NumberScribe.class.getDeclaredConstructors()) {
       addIfSeen(seen, constructor);
@@ -43,10 +50,11 @@ public final class FaceTest {
       System.out.println("the face is " + seen + ", due is " + FACE);
     }
     Check.due("the face", seen.equals(FACE) ? 1 : 0, 1);
+  }
+
+  private static void classIsPublicAndFinal() {
     int modifiers = NumberScribe.class.getModifiers();
     Check.due("the class's modifiers", modifiers, Modifier.PUBLIC | Modifier.FINAL);
-    noPrivateNamesake();
-    Check.finish();
   }
 
   private static void addIfSeen(Set<String> seen, Member member) {
