@@ -10,9 +10,11 @@ final class Check {
   };
 
   private static final int MOST_SIGNS = 80;
+  private static final int MOST_TOLD = 20;
 
   private static int asked = 0;
   private static int wrong = 0;
+  private static int told = 0;
 
   private Check() {}
 
@@ -20,6 +22,7 @@ final class Check {
   static void holds(String sentence, Runnable test) {
     int askedBefore = asked;
     int wrongBefore = wrong;
+    told = 0;
     try {
       test.run();
     } catch (RuntimeException thrown) {
@@ -83,9 +86,13 @@ final class Check {
     return text.toString();
   }
 
+  /** Of a sentence the first few wrong answers are told, without signs that would upset a log. */
   private static void tellWrong(String what) {
     wrong++;
-    System.out.println(what);
+    if (told < MOST_TOLD) {
+      told++;
+      System.out.println(what.replaceAll("[^ -~]", "."));
+    }
   }
 
   static void finish() {
