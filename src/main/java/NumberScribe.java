@@ -16,6 +16,9 @@ public final class NumberScribe {
   private static final int INT_WITHOUT_SIGN = 2;
   private static final int LONG_WITHOUT_SIGN = 3;
 
+  private static final long HIGHEST_BIT_OF_INT = 1L << 31;
+  private static final long HIGHEST_BIT_OF_LONG = 1L << 63;
+
   private static final int READ = 0;
   private static final int NOT_A_NUMBER = 1;
 
@@ -197,7 +200,7 @@ public final class NumberScribe {
         return w == 0 ? REFUSED : Long.remainderUnsigned(v, w);
       case 4:
         // With the highest bit turned over, the order with a sign is the order without one.
-        return order(v ^ Long.MIN_VALUE, w ^ Long.MIN_VALUE);
+        return order(v ^ HIGHEST_BIT_OF_LONG, w ^ HIGHEST_BIT_OF_LONG);
       case 5:
         return order(v, w);
       case 6:
@@ -315,9 +318,9 @@ public final class NumberScribe {
   private static long mostOf(int way, boolean below) {
     switch (way) {
       case INT:
-        return below ? 1L << 31 : Integer.MAX_VALUE;
+        return below ? HIGHEST_BIT_OF_INT : HIGHEST_BIT_OF_INT - 1;
       case LONG:
-        return below ? Long.MIN_VALUE : Long.MAX_VALUE;
+        return below ? HIGHEST_BIT_OF_LONG : HIGHEST_BIT_OF_LONG - 1;
       case INT_WITHOUT_SIGN:
         return 0xFFFFFFFFL;
       default:
